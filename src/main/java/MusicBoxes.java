@@ -513,11 +513,12 @@ public final class MusicBoxes {
         }
 
         static int ofEighths(int v) {
-            return withSignOf(v, Math.abs(v) / 8.0f);
+            return withSignOf(v, (float) Math.abs(v) / 8.0f);
         }
 
         static boolean mayGetQuarters(int bits, int v) {
-            return v >= -MOST_QUARTERS && v <= MOST_QUARTERS && sizeTimesQuarters(bits, v) <= MOST_SIZE;
+            return v >= -MOST_QUARTERS && v <= MOST_QUARTERS
+                && sizeTimesQuarters(bits, v) <= (float) MOST_SIZE;
         }
 
         static int timesQuarters(int bits, int v) {
@@ -530,7 +531,7 @@ public final class MusicBoxes {
         }
 
         private static float sizeTimesQuarters(int bits, int v) {
-            return sizeOf(bits) * (Math.abs(v) / 4.0f);
+            return sizeOf(bits) * ((float) Math.abs(v) / 4.0f);
         }
 
         private static int withSignOf(int signed, float size) {
@@ -545,7 +546,7 @@ public final class MusicBoxes {
                 whole += LEADING_ONE;
                 doublings--;
             }
-            float size = whole;
+            float size = (float) whole;
             for (int i = doublings; i < HALVINGS; i++) {
                 size /= 2.0f;
             }
@@ -556,7 +557,7 @@ public final class MusicBoxes {
         private static int bitsOf(float size) {
             float whole = size;
             int doublings = HALVINGS;
-            while (doublings > 0 && whole < LEADING_ONE) {
+            while (doublings > 0 && whole < (float) LEADING_ONE) {
                 whole *= 2.0f;
                 doublings--;
             }
